@@ -716,7 +716,6 @@ public final class VirtioMachine {
             super(DISK_KIND, SECTORS, 1, memory, chain);
         }
 
-        @Override
         void step() {
             Queue queue = queues[0];
             if (!hasChain(queue)) {
@@ -807,7 +806,6 @@ public final class VirtioMachine {
             super(CONSOLE_KIND, 0, 2, memory, chain);
         }
 
-        @Override
         void step() {
             if (inputCount > 0 && hasChain(queues[RECEIVE])) {
                 receive(queues[RECEIVE]);
@@ -969,6 +967,19 @@ public final class VirtioMachine {
         private static final int INTERRUPTS_WERE_ON = 1 << 7;
         private static final int EXTERNAL = 1 << 11;
 
+        private static final int OPCODE_BITS = 0x7F;
+        private static final int LUI = 0x37;
+        private static final int AUIPC = 0x17;
+        private static final int JAL = 0x6F;
+        private static final int JALR = 0x67;
+        private static final int BRANCH = 0x63;
+        private static final int LOAD = 0x03;
+        private static final int STORE = 0x23;
+        private static final int IMMEDIATE_OPERATION = 0x13;
+        private static final int OPERATION = 0x33;
+        private static final int FENCE = 0x0F;
+        private static final int SYSTEM = 0x73;
+
         private static final int ECALL = 0x00000073;
         private static final int EBREAK = 0x00100073;
         private static final int MRET = 0x30200073;
@@ -1017,28 +1028,28 @@ public final class VirtioMachine {
 
         boolean execute() {
             int code = memory.word(pc);
-            switch (code & 0x7F) {
-                case 0x37:
+            switch (code & OPCODE_BITS) {
+                case LUI:
                     return put(code, code & ~0xFFF);
-                case 0x17:
+                case AUIPC:
                     return put(code, pc + (code & ~0xFFF));
-                case 0x6F:
+                case JAL:
                     return leap(code, pc + leapOffset(code));
-                case 0x67:
+                case JALR:
                     return kind(code) == 0 ? leap(code, (first(code) + (code >> 20)) & ~1) : trap(ILLEGAL);
-                case 0x63:
+                case BRANCH:
                     return branch(code);
-                case 0x03:
+                case LOAD:
                     return load(code);
-                case 0x23:
+                case STORE:
                     return store(code);
-                case 0x13:
+                case IMMEDIATE_OPERATION:
                     return operateOnImmediate(code);
-                case 0x33:
+                case OPERATION:
                     return operate(code);
-                case 0x0F:
+                case FENCE:
                     return kind(code) == 0 ? goOn() : trap(ILLEGAL);
-                case 0x73:
+                case SYSTEM:
                     return kind(code) == 0 ? system(code) : exchange(code);
                 default:
                     return trap(ILLEGAL);

@@ -4,7 +4,7 @@ import java.util.Random;
 public final class AnyCallsTest {
     private static final Check CHECK = new Check();
     private static final int OBJECTS = 300;
-    private static final int CALLS = 512;
+    private static final int CALLS = 350;
     private static final int OTHER = 1 << 20;
 
     public static void main(String[] args) {
@@ -28,7 +28,7 @@ public final class AnyCallsTest {
             new Driver(m, Driver.CONSOLE, 1, 2 << random.nextInt(3));
         }
         long sum = 0;
-        for (int k = 64; k < CALLS; k++) {
+        for (int k = 0; k < CALLS; k++) {
             sum = sum * 31 + call(m, random);
         }
         return sum;

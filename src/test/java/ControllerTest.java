@@ -49,7 +49,8 @@ public final class ControllerTest {
     }
 
     private static void claimOrder() {
-        int[][] cases = {{1, 1, 1, 2}, {1, 2, 2, 1}, {7, 6, 1, 2}, {7, 7, 1, 2}, {0, 1, 2, 0}, {1, 0, 1, 0}, {0, 0, 0, 0}};
+        int[][] cases = {{1, 1, 1, 2}, {1, 2, 2, 1}, {7, 6, 1, 2}, {7, 7, 1, 2}, {0, 1, 2, 0}, {1, 0, 1, 0},
+            {0, 0, 0, 0}};
         for (int[] c : cases) {
             VirtioMachine m = bothPending();
             CHECK.due("pending", m.in(PENDING), 6);

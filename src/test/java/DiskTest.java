@@ -73,14 +73,14 @@ public final class DiskTest {
     }
 
     private static void sectorEdges() {
-        int[][] cases = {{0, 32, 0}, {7, 32, 0}, {8, 32, 1}, {-1, 32, 1}, {0, 256, 0}, {1, 256, 1}, {7, 64, 1}, {6, 64, 0},
-            {8, 0, 0}, {0, 0, 0}, {9, 0, 1}, {-1, 0, 1}, {0, 288, 1}, {-1, 288, 1}, {Integer.MIN_VALUE, 32, 1},
+        int[][] cases = {{0, 32, 0}, {7, 32, 0}, {8, 32, 1}, {-1, 32, 1}, {0, 256, 0}, {1, 256, 1}, {7, 64, 1},
+            {6, 64, 0}, {8, 0, 0}, {0, 0, 0}, {9, 0, 1}, {-1, 0, 1}, {0, 288, 1}, {-1, 288, 1}, {Integer.MIN_VALUE, 32, 1},
             {Integer.MAX_VALUE, 32, 1}, {0x08000000, 32, 1}};
         for (int[] c : cases) {
             Driver out = disk();
             CHECK.due("out of " + c[1] + " at " + c[0], request(out, 1, c[0], c[1], 0), c[2]);
             CHECK.due("length", length(out), 1);
-            CHECK.due("disk", c[2] == 0 && c[1] > 0 ? 1 : 0, written(out.m) > 0 ? 1 : 0);
+            CHECK.due("disk", written(out.m) > 0, c[2] == 0 && c[1] > 0);
             Driver in = disk();
             request(in, 1, 0, 256, 0);
             CHECK.due("in of " + c[1] + " at " + c[0], request(in, 0, c[0], 0, c[1]), c[2]);
@@ -112,6 +112,10 @@ public final class DiskTest {
         CHECK.due("and does not fill it", d.m.peek(FILLED), 0);
         CHECK.due("in does not look at the data", request(d, 0, 0, 5, 32), 0);
         CHECK.due("length", length(d), 33);
+        CHECK.due("filled", Driver.octet(d.m, FILLED + 31), 31 * 7 + 3);
+        CHECK.due("the data are as before", d.m.peek(DATA), 3 | 10 << 8 | 17 << 16 | 24 << 24);
+        CHECK.due("flush", request(d, 4, 0, 0, 32), 0);
+        CHECK.due("length behind a longer one", length(d), 1);
     }
 
     private static void fourthWord() {

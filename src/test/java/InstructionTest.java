@@ -195,7 +195,8 @@ public final class InstructionTest {
             CHECK.due("load " + c[0] + " at " + (514 + c[1]), m.register(2), c[2]);
         }
         int[][] traps = {{1, 511, 4}, {2, 514, 4}, {5, 513, 4}, {2, 4097, 4}, {2, 4096, 5}, {0, 4096, 5}, {4, 4100, 5},
-            {1, 4100, 5}, {5, 8192, 5}, {0, 12288, 5}, {2, 16384, 5}, {2, -4, 5}, {0, -1, 5}, {2, 8452, 5}, {0, 8193, 5}};
+            {1, 4100, 5}, {5, 8192, 5}, {0, 12288, 5}, {2, 16384, 5}, {2, -4, 5}, {0, -1, 5}, {2, 8452, 5},
+            {0, 8193, 5}};
         for (int[] c : traps) {
             trapsAt(c, Asm.load(c[0], 2, 3, 0));
         }
@@ -275,7 +276,8 @@ public final class InstructionTest {
                     m.jump(2048);
                     int done = m.run(1);
                     boolean illegal = done == 0 && m.csr(834) == 2;
-                    CHECK.due("opcode " + opcode + " " + funct3 + " " + funct7, !illegal, isLegal(opcode, funct3, funct7));
+                    String what = "opcode " + opcode + " " + funct3 + " " + funct7;
+                    CHECK.due(what, !illegal, isLegal(opcode, funct3, funct7));
                     if (illegal) {
                         CHECK.due("mepc", m.csr(833), 2048);
                         CHECK.due("pc", m.register(32), 0);

@@ -12,6 +12,7 @@ public final class RegisterTest {
             readyConditions(base);
             readyHolds(base);
             reset(base);
+            resetOfWhatIsWritten(base);
             readOnly(base);
         }
         CHECK.end();
@@ -178,7 +179,34 @@ public final class RegisterTest {
         m.out(base + 36, 1);
         m.out(base + 32, 1);
         m.out(base + 112, 15);
-        CHECK.due("the select for 32 is 0", m.in(base + 112), 15);
+        CHECK.due("the features are accepted", m.in(base + 112), 15);
+    }
+
+    private static void resetOfWhatIsWritten(int base) {
+        VirtioMachine m = new VirtioMachine();
+        m.out(base + 36, 0);
+        m.out(base + 32, 1);
+        for (int offset : new int[] {128, 144, 160, 36}) {
+            m.out(base + offset, 1);
+        }
+        m.out(base + 48, 5);
+        m.out(base + 112, 0);
+        CHECK.due("queue 0 is named", m.in(base + 52), 8);
+        m.out(base + 56, 2);
+        m.out(base + 68, 1);
+        due("the places are 0", m.in(base + 68), true);
+        m.out(base + 32, 2);
+        m.out(base + 36, 1);
+        m.out(base + 32, 1);
+        m.out(base + 112, 15);
+        CHECK.due("the select for 32 was 0", m.in(base + 112), 3);
+        VirtioMachine n = new VirtioMachine();
+        accept(n, base, 1, 0);
+        n.out(base + 112, 0);
+        n.out(base + 36, 1);
+        n.out(base + 32, 1);
+        n.out(base + 112, 15);
+        CHECK.due("no low features were accepted", n.in(base + 112), 15);
     }
 
     private static void readOnly(int base) {

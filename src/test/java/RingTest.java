@@ -17,7 +17,9 @@ public final class RingTest {
         tables();
         badTables();
         indirectHasToBeAccepted();
+        tableInTheFirstDescriptorOfRam();
         bigTables();
+        bothInterrupts();
         badChainsDoNothingElse();
         onlyLiveDevices();
         usedRing();
@@ -207,6 +209,28 @@ public final class RingTest {
         Driver e = transmit(8, true).descriptor(0, TABLE, 16, INDIRECT, 0);
         e.m.out(Driver.CONSOLE + 32, ~(1 << 28));
         isBad("no longer accepted", e.offer(0));
+    }
+
+    private static void tableInTheFirstDescriptorOfRam() {
+        Driver d = transmit();
+        d.m.out(Driver.CONSOLE + 68, 0);
+        d.place(1, 8, 0, d.available, d.used);
+        d.m.out(Driver.CONSOLE + 68, 1);
+        Driver.descriptorAt(d.m, 0, TABLE, 16, INDIRECT, 0);
+        Driver.descriptorAt(d.m, TABLE, LETTERS + 1, 1, 0, 0);
+        prints("a table", d.offer(0), "A");
+    }
+
+    private static void bothInterrupts() {
+        Driver d = transmit().descriptor(0, LETTERS, 1, 0, 0).offer(0).offer(99);
+        d.m.run(2);
+        CHECK.due("both bits", d.interrupts(), 3);
+        d.m.out(Driver.CONSOLE + 100, 1);
+        CHECK.due("bit 1 stays", d.interrupts(), 2);
+        d.m.out(Driver.CONSOLE + 100, 4 | 1);
+        CHECK.due("bit 1 stays", d.interrupts(), 2);
+        d.m.out(Driver.CONSOLE + 100, 2);
+        CHECK.due("none stays", d.interrupts(), 0);
     }
 
     private static void bigTables() {
