@@ -5,6 +5,9 @@ final class Asm {
     static final int MRET = 0x30200073;
     static final int WFI = 0x10500073;
     static final int NOP = 0x00000013;
+    /** Where single instructions are done. */
+    static final int AT = 3960;
+    static final int NO_TRAP = -1;
 
     static int r(int funct7, int rs2, int rs1, int funct3, int rd, int opcode) {
         return funct7 << 25 | rs2 << 20 | rs1 << 15 | funct3 << 12 | rd << 7 | opcode;
@@ -74,5 +77,24 @@ final class Asm {
         m.jump(3968);
         m.run(2);
         m.jump(then);
+    }
+
+    /** Does one instruction at AT: the cause of the trap that it ended in, or NO_TRAP. */
+    static int does(VirtioMachine m, int instruction) {
+        m.poke(AT, instruction);
+        m.jump(AT);
+        return m.run(1) == 1 ? NO_TRAP : m.csr(834);
+    }
+
+    /** The same with a word in x3, for accesses to any address. */
+    static int doesWith(VirtioMachine m, int x3, int instruction) {
+        set(m, 3, x3, AT);
+        return does(m, instruction);
+    }
+
+    /** Writes a CSR by way of x31. */
+    static void setCsr(VirtioMachine m, int number, int value) {
+        set(m, 31, value, AT);
+        does(m, csr(1, 0, number, 31));
     }
 }

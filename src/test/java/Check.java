@@ -1,11 +1,17 @@
 /** Counts the answers that are not as due, and ends a test with exit code 1 if there was one. */
 final class Check {
     private int wrong;
+    private String sentence = "";
+
+    /** What is checked from here on is what these words of the document say. */
+    void sentence(String words) {
+        sentence = "\"" + words + "\": ";
+    }
 
     void due(String what, long got, long want) {
         if (got != want) {
             wrong++;
-            System.out.println(what + ": " + got + ", due is " + want);
+            System.out.println(sentence + what + ": " + got + ", due is " + want);
         }
     }
 
