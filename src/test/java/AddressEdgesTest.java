@@ -17,6 +17,7 @@ public final class AddressEdgesTest {
         ram();
         ramAtFirst();
         placesOfRegisters();
+        placesAreApart();
         wholeWordsAlone();
         otherBusAccesses();
         otherAccessesOfTheCore();
@@ -51,6 +52,8 @@ public final class AddressEdgesTest {
         CHECK.due("byte 1 stored", m.peek(512), 0x84830181);
         store(m, SH, 514);
         CHECK.due("half word 1 stored", m.peek(512), 0x02020181);
+        store(m, SH, 512);
+        CHECK.due("half word 0 stored", m.peek(512), 0x02020200);
     }
 
     private static void ram() {
@@ -95,6 +98,31 @@ public final class AddressEdgesTest {
         m.out(12288 + 112, 2);
         CHECK.due("the disk's status", m.in(8192 + 112), 1);
         CHECK.due("the console's status", m.in(12288 + 112), 2);
+    }
+
+    /** The same offset is written in one place after the other; each place answers for itself. */
+    private static void placesAreApart() {
+        CHECK.sentence("each by the offsets that are named below");
+        VirtioMachine ram = new VirtioMachine();
+        for (int offset = 0; offset <= 256; offset += 4) {
+            ram.out(offset, 3);
+        }
+        CHECK.due("the controller behind RAM", ram.in(4100) + ram.in(4104) + ram.in(4116) + ram.in(4120), 0);
+        CHECK.due("the devices behind RAM", ram.in(8192 + 112) + ram.in(12288 + 112), 0);
+        VirtioMachine m = new VirtioMachine();
+        for (int offset : CONTROLLER) {
+            m.out(4096 + offset, 1);
+        }
+        CHECK.due("RAM behind the controller", m.peek(4) + m.peek(8) + m.peek(16) + m.peek(20) + m.peek(24), 0);
+        CHECK.due("the disk's SELECT behind it", m.in(8192 + 16), 1 << 28);
+        CHECK.due("the console's SELECT behind it", m.in(12288 + 16), 1 << 28);
+        m.out(8192 + 20, 1);
+        CHECK.due("the controller behind the disk", m.in(4116), 0);
+        CHECK.due("the console behind the disk", m.in(12288 + 16), 1 << 28);
+        m.out(8192 + 20, 0);
+        m.out(12288 + 20, 1);
+        CHECK.due("the controller behind the console", m.in(4116), 0);
+        CHECK.due("the disk behind the console", m.in(8192 + 16), 1 << 28);
     }
 
     private static void partsFault(int address) {

@@ -83,9 +83,12 @@ public final class ConsoleEdgesTest {
         int typed = 0;
         int taken = 0;
         for (int round = 0; round < 6; round++) {
-            while (d.m.key(typed + 1) != -1) {
+            int waiting = typed - taken;
+            for (int k = waiting; k < 16; k++) {
                 typed++;
+                CHECK.due("key " + typed, d.m.key(typed), k + 1);
             }
+            CHECK.due("key beyond 16", d.m.key(99), -1);
             d.offer(0);
             d.m.serve();
             for (int k = 0; k < 7; k++) {

@@ -94,10 +94,11 @@ public final class ConsoleTest {
         int typed = 0;
         int taken = 0;
         for (int round = 0; round < 20; round++) {
-            while (d.m.key(typed) != -1) {
+            while (typed - taken < 16) {
+                CHECK.due("key", d.m.key(typed), typed - taken + 1);
                 typed++;
             }
-            CHECK.due("16 wait", typed - taken, 16);
+            CHECK.due("16 wait", d.m.key(typed), -1);
             d.offer(0);
             d.m.serve();
             for (int k = 0; k < 5; k++) {

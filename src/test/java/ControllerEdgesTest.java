@@ -27,6 +27,8 @@ public final class ControllerEdgesTest {
         claimLeavesTheThresholdAside();
         completes();
         completesNoOther();
+        completesOneAlone();
+        completesByTheClaimAlone();
         completesWhatIsNotInService();
         pendingAfterADevicesStep();
         pendingAfterABusAccess();
@@ -85,12 +87,15 @@ public final class ControllerEdgesTest {
     private static void prioritiesAreApart() {
         CHECK.sentence("4 and 8 the priorities");
         VirtioMachine m = new VirtioMachine();
-        m.out(DISK_PRIORITY, 3);
-        m.out(CONSOLE_PRIORITY, 5);
-        m.out(THRESHOLD, 6);
-        CHECK.due("4", m.in(DISK_PRIORITY), 3);
-        CHECK.due("8", m.in(CONSOLE_PRIORITY), 5);
-        CHECK.due("24", m.in(THRESHOLD), 6);
+        int[] addresses = {DISK_PRIORITY, CONSOLE_PRIORITY, THRESHOLD};
+        for (int address : addresses) {
+            m.out(address, 5);
+            for (int other : addresses) {
+                CHECK.due("offset " + (other - 4096), m.in(other), other == address ? 5 : 0);
+            }
+            CHECK.due("enabled", m.in(ENABLED), 0);
+            m.out(address, 0);
+        }
     }
 
     private static void pendingCannotBeWritten() {
@@ -221,6 +226,29 @@ public final class ControllerEdgesTest {
         for (int number : new int[] {0, 3, 4, 33, 34, 257, -1, -2, Integer.MIN_VALUE, Integer.MAX_VALUE}) {
             m.out(CLAIM, number);
             CHECK.due("both are in service behind " + number, m.in(PENDING), 0);
+        }
+    }
+
+    private static void completesOneAlone() {
+        CHECK.sentence("the source with that number");
+        for (int number = 1; number <= 2; number++) {
+            VirtioMachine m = bothAboutToFail();
+            m.out(CLAIM, number);
+            m.serve();
+            CHECK.due("no source is in service", m.in(PENDING), BOTH);
+        }
+    }
+
+    private static void completesByTheClaimAlone() {
+        CHECK.sentence("28 read, the CLAIM");
+        VirtioMachine m = bothPending(1, 2, BOTH);
+        m.in(CLAIM);
+        m.in(CLAIM);
+        for (int number = 1; number <= 2; number++) {
+            for (int address : new int[] {DISK_PRIORITY, CONSOLE_PRIORITY, PENDING, ENABLED, THRESHOLD}) {
+                m.out(address, number);
+                CHECK.due("both are in service behind " + address, m.in(PENDING), 0);
+            }
         }
     }
 

@@ -27,9 +27,14 @@ public final class CoreEdgesTest {
         divisionByZero();
         divisionOverflow();
         highProducts();
+        wrapAround();
         shiftAmounts();
         comparisonsAtTheSign();
         branchesAtTheSign();
+        farBranches();
+        farJumps();
+        farAccesses();
+        upperImmediates();
         loadsAtTheSign();
         fence();
         nothingToSet();
@@ -210,6 +215,23 @@ public final class CoreEdgesTest {
         CHECK.due("MULHU", computed(1, 3, least, least), 0x40000000);
     }
 
+    private static void wrapAround() {
+        CHECK.sentence("the operations on registers and with immediates");
+        int least = Integer.MIN_VALUE;
+        int most = Integer.MAX_VALUE;
+        CHECK.due("ADD", computed(0, 0, most, 1), least);
+        CHECK.due("SUB", computed(32, 0, least, 1), most);
+        CHECK.due("SUB", computed(32, 0, 0, least), least);
+        CHECK.due("MUL", computed(1, 0, 65536, 65536), 0);
+        VirtioMachine m = new VirtioMachine();
+        Asm.set(m, 1, most, 0);
+        Asm.does(m, Asm.addi(4, 1, 2047));
+        CHECK.due("ADDI", m.register(4), least + 2046);
+        Asm.set(m, 1, least, 0);
+        Asm.does(m, Asm.addi(4, 1, -2048));
+        CHECK.due("ADDI", m.register(4), most - 2047);
+    }
+
     private static void shiftAmounts() {
         CHECK.sentence("the operations on registers and with immediates");
         for (int amount : new int[] {0, 31, 32, 33, 64, -1, Integer.MIN_VALUE}) {
@@ -218,7 +240,15 @@ public final class CoreEdgesTest {
             CHECK.due("SRA by " + amount, computed(32, 5, -3, amount), -3 >> (amount & 31));
         }
         VirtioMachine m = new VirtioMachine();
-        CHECK.due("SLLI by 31", Asm.does(m, Asm.opImm(1, 1, 1, 31)), NO_TRAP);
+        Asm.set(m, 1, -3, 0);
+        Asm.does(m, Asm.opImm(1, 4, 1, 31));
+        CHECK.due("SLLI by 31", m.register(4), Integer.MIN_VALUE);
+        Asm.does(m, Asm.opImm(5, 4, 1, 31));
+        CHECK.due("SRLI by 31", m.register(4), 1);
+        Asm.does(m, Asm.opImm(5, 4, 1, 1024 + 31));
+        CHECK.due("SRAI by 31", m.register(4), -1);
+        Asm.does(m, Asm.opImm(5, 4, 1, 1024));
+        CHECK.due("SRAI by 0", m.register(4), -3);
         CHECK.due("SLLI by 32", Asm.does(m, Asm.opImm(1, 1, 1, 32)), 2);
         CHECK.due("SRLI by 32", Asm.does(m, Asm.opImm(5, 1, 1, 32)), 2);
         CHECK.due("SRAI by 32", Asm.does(m, Asm.opImm(5, 1, 1, 1024 + 32)), 2);
@@ -232,6 +262,7 @@ public final class CoreEdgesTest {
         CHECK.due("SLTU", computed(0, 3, least, most), 0);
         CHECK.due("SLT", computed(0, 2, most, least), 0);
         CHECK.due("SLTU", computed(0, 3, most, least), 1);
+        CHECK.due("SLT of equals", computed(0, 2, -1, -1), 0);
         CHECK.due("SLTU of equals", computed(0, 3, -1, -1), 0);
         VirtioMachine m = new VirtioMachine();
         Asm.set(m, 1, 5, 0);
@@ -258,6 +289,64 @@ public final class CoreEdgesTest {
                 CHECK.due("of " + p[0] + " and " + p[1], m.register(32), taken[kind] ? Asm.AT - 32 : Asm.AT + 4);
             }
         }
+    }
+
+    private static void farBranches() {
+        CHECK.sentence("LUI, AUIPC, JAL, JALR, the six branches");
+        VirtioMachine m = new VirtioMachine();
+        for (int offset : new int[] {-4096, 4092, -2048, 2048, 2044, -32, 32, 1024, 512, 64, 16, 4, -4, 0}) {
+            CHECK.due("it is no trap", Asm.does(m, Asm.branch(0, 0, 0, offset)), NO_TRAP);
+            CHECK.due("by " + offset, m.register(32), Asm.AT + offset);
+        }
+    }
+
+    private static void farJumps() {
+        CHECK.sentence("LUI, AUIPC, JAL, JALR, the six branches");
+        VirtioMachine m = new VirtioMachine();
+        for (int bit = 2; bit <= 20; bit++) {
+            int offset = bit == 20 ? -(1 << 20) : 1 << bit;
+            CHECK.due("it is no trap", Asm.does(m, Asm.jal(4, offset)), NO_TRAP);
+            CHECK.due("JAL by " + offset, m.register(32), Asm.AT + offset);
+            CHECK.due("its link", m.register(4), Asm.AT + 4);
+        }
+        Asm.does(m, Asm.jal(4, (1 << 20) - 4));
+        CHECK.due("JAL as far as can be", m.register(32), Asm.AT + (1 << 20) - 4);
+        Asm.doesWith(m, 0, Asm.jalr(4, 3, -2048));
+        CHECK.due("JALR as far back as can be", m.register(32), -2048);
+        Asm.doesWith(m, 1, Asm.jalr(4, 3, 2047));
+        CHECK.due("JALR as far as can be", m.register(32), 2048);
+        Asm.doesWith(m, Integer.MAX_VALUE, Asm.jalr(4, 3, 1));
+        CHECK.due("JALR over the greatest word", m.register(32), Integer.MIN_VALUE);
+    }
+
+    private static void farAccesses() {
+        CHECK.sentence("LB LH LW LBU LHU, SB SH SW");
+        VirtioMachine m = new VirtioMachine();
+        for (int offset : new int[] {-2048, -1024, -32, -4, 0, 4, 28, 32, 64, 128, 256, 512, 1024, 2044}) {
+            m.poke(2048 + offset, 7 + offset);
+            CHECK.due("it is no trap", Asm.doesWith(m, 2048, Asm.load(2, 4, 3, offset & 4095)), NO_TRAP);
+            CHECK.due("LW by " + offset, m.register(4), 7 + offset);
+            CHECK.due("it is no trap", Asm.doesWith(m, 2048, Asm.store(2, 3, 3, offset & 4095)), NO_TRAP);
+            CHECK.due("SW by " + offset, m.peek(2048 + offset), 2048);
+        }
+        CHECK.due("LB by -1", Asm.doesWith(m, 4096, Asm.load(0, 4, 3, -1)), NO_TRAP);
+        CHECK.due("LB by 1", Asm.doesWith(m, -1, Asm.load(0, 4, 3, 1)), NO_TRAP);
+        CHECK.due("SB by -1", Asm.doesWith(m, 0, Asm.store(0, 4, 3, -1)), 7);
+    }
+
+    private static void upperImmediates() {
+        CHECK.sentence("LUI, AUIPC");
+        VirtioMachine m = new VirtioMachine();
+        for (int upper : new int[] {0, 1, 0x7FFFF, 0x80000, 0xFFFFF}) {
+            Asm.does(m, Asm.lui(4, upper));
+            CHECK.due("LUI " + upper, m.register(4), upper << 12);
+            Asm.does(m, Asm.auipc(4, upper));
+            CHECK.due("AUIPC " + upper, m.register(4), (upper << 12) + Asm.AT);
+        }
+        m.poke(0, Asm.auipc(5, 0));
+        m.jump(0);
+        m.run(1);
+        CHECK.due("AUIPC at 0", m.register(5), 0);
     }
 
     private static void loadsAtTheSign() {

@@ -28,6 +28,10 @@ public final class DeviceEdgesTest {
             selectForAccepted(base);
             acceptedAtAnyTime(base);
             acceptedIsReplaced(base);
+            acceptedKeepsItsSelect(base);
+            selectsAreApart(base);
+            queueAlone(base);
+            placesInAnyOrder(base);
             mostOfAQueue(base);
             noSuchQueue(base);
             queuesOfADevice(base);
@@ -221,6 +225,61 @@ public final class DeviceEdgesTest {
         CHECK.due("the last word counts", m.in(base + STATUS), 15);
         accept(m, base, 0, 0);
         CHECK.due("what is in stays in", m.in(base + STATUS), 15);
+    }
+
+    private static void acceptedKeepsItsSelect(int base) {
+        CHECK.sentence("36 (written) the select for 32");
+        VirtioMachine m = new VirtioMachine();
+        m.out(base + ACCEPTED_SELECT, 1);
+        m.out(base + ACCEPTED, 0);
+        m.out(base + ACCEPTED, 1);
+        m.out(base + STATUS, 15);
+        CHECK.due("both were for word 1", m.in(base + STATUS), 15);
+    }
+
+    private static void selectsAreApart(int base) {
+        CHECK.sentence("20 (written) SELECT");
+        for (int select : new int[] {0, 1, 2}) {
+            VirtioMachine m = new VirtioMachine();
+            accept(m, base, 0, 1);
+            m.out(base + SELECT, select);
+            m.out(base + STATUS, 15);
+            CHECK.due("what is accepted stays, behind SELECT " + select, m.in(base + STATUS), 15);
+        }
+    }
+
+    private static void queueAlone(int base) {
+        CHECK.sentence("48 (written) QUEUE");
+        Driver d = withChain(base, 4).offer(99);
+        d.m.run(2);
+        for (int number : new int[] {0, 1, 3, -1}) {
+            d.m.out(base + QUEUE, number);
+            CHECK.due("INTERRUPT STATUS behind " + number, d.interrupts(), 3);
+            CHECK.due("STATUS behind it", d.status(), 79);
+        }
+    }
+
+    private static void placesInAnyOrder(int base) {
+        CHECK.sentence("56 (written) SIZE; 68 READY; 128, 144, 160 (written) where the queue's descriptors, AVAILABLE "
+            + "and USED rings are");
+        int[] offsets = {SIZE, DESCRIPTORS, AVAILABLE, USED};
+        int[] words = {4, 1024, 2048, 2560};
+        for (int first = 0; first < 4; first++) {
+            VirtioMachine m = new VirtioMachine();
+            Driver.wake(m, base, false);
+            m.out(base + QUEUE, lastQueue(base));
+            for (int k = 4; k > 0; k--) {
+                m.out(base + offsets[(first + k) % 4], words[(first + k) % 4]);
+            }
+            m.out(base + READY, 1);
+            m.poke(BUFFER, 4);
+            Driver.descriptorAt(m, 1024, BUFFER, 16, Driver.NEXT, 1);
+            Driver.descriptorAt(m, 1040, BUFFER + 32, 1, Driver.WRITE, 0);
+            m.poke(2048, 65536);
+            m.serve();
+            CHECK.due("the used ring", m.peek(2560), 65536);
+            CHECK.due("status", m.in(base + STATUS), 15);
+        }
     }
 
     private static void mostOfAQueue(int base) {

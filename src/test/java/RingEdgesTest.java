@@ -590,8 +590,8 @@ public final class RingEdgesTest {
             }
             for (int k = 0; k < 2 * size + 1; k++) {
                 int head = (k + 1) % size;
-                while (m.key(0) < head + 1) {
-                    CHECK.due("used index, before input waits", d.usedIndex(), k);
+                for (int c = 0; c <= head; c++) {
+                    CHECK.due("key", m.key(c), c + 1);
                 }
                 d.offer(head);
                 m.serve();
