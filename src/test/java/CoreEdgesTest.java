@@ -295,8 +295,10 @@ public final class CoreEdgesTest {
         CHECK.sentence("LUI, AUIPC, JAL, JALR, the six branches");
         VirtioMachine m = new VirtioMachine();
         for (int offset : new int[] {-4096, 4092, -2048, 2048, 2044, -32, 32, 1024, 512, 64, 16, 4, -4, 0}) {
-            CHECK.due("it is no trap", Asm.does(m, Asm.branch(0, 0, 0, offset)), NO_TRAP);
-            CHECK.due("by " + offset, m.register(32), Asm.AT + offset);
+            for (int register : new int[] {1, 2, 31}) {
+                CHECK.due("it is no trap", Asm.does(m, Asm.branch(0, register, 32 - register, offset)), NO_TRAP);
+                CHECK.due("by " + offset, m.register(32), Asm.AT + offset);
+            }
         }
     }
 

@@ -40,7 +40,8 @@ public final class DiskEdgesTest {
         fourthWordOfOthers();
         lengthCountsTheResult();
         requestIsReadFirst();
-        resultIsWrittenLast();
+        resultBehindWhatIsFilled();
+        usedRingBehindTheResult();
         bytesAreKept();
         CHECK.end();
     }
@@ -438,7 +439,7 @@ public final class DiskEdgesTest {
         }
     }
 
-    private static void resultIsWrittenLast() {
+    private static void resultBehindWhatIsFilled() {
         CHECK.sentence("What lies in RAM is read and written when it is needed, in the order that is named");
         Driver d = fullDisk();
         d.m.poke(REQUEST, IN);
@@ -447,6 +448,15 @@ public final class DiskEdgesTest {
             .descriptor(2, FILLED + 1, 1, WRITE, 0).offer(0);
         d.m.serve();
         CHECK.due("the result over what was filled", d.m.peek(FILLED), d.m.peek(DATA) & ~0xFF00);
+    }
+
+    private static void usedRingBehindTheResult() {
+        CHECK.sentence("What lies in RAM is read and written when it is needed, in the order that is named");
+        Driver d = disk();
+        d.m.poke(REQUEST, 99);
+        d.descriptor(0, REQUEST, 16, NEXT, 1).descriptor(1, d.used + 8, 1, WRITE, 0).offer(0);
+        d.m.serve();
+        CHECK.due("the length over the result", d.usedLength(0), 1);
     }
 
     private static void bytesAreKept() {

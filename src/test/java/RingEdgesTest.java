@@ -48,6 +48,7 @@ public final class RingEdgesTest {
         badOfADevice();
         seenGrows();
         elementOfDoneModuloTheSize();
+        headAsItWasRead();
         usedFlagsStay();
         interruptOfAChain();
         noInterrupt();
@@ -601,6 +602,18 @@ public final class RingEdgesTest {
             }
             CHECK.due("behind the last element", m.peek(d.used + 4 + 8 * size), 0);
         }
+    }
+
+    private static void headAsItWasRead() {
+        CHECK.sentence("the element DONE modulo the size gets its head");
+        VirtioMachine m = new VirtioMachine();
+        m.key(7);
+        m.key(0);
+        Driver d = Driver.receive(m);
+        d.descriptor(3, d.available + 4, 2, WRITE, 0).offer(3);
+        m.serve();
+        CHECK.due("what is filled lies over the head", Driver.half(m, d.available + 4), 7);
+        CHECK.due("the head in the used ring", d.usedHead(0), 3);
     }
 
     private static void usedFlagsStay() {
